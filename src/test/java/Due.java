@@ -56,6 +56,30 @@ final class Due {
         isThrown(call, IllegalArgumentException.class, body);
     }
 
+    /** The buffer's word i must be a + i * b, for all i. */
+    void isFilled(String when, WordMedium x, int a, int b) {
+        for (int i = 0; i < 64; i++) {
+            is("get(" + i + ") " + when, a + i * b, x.get(i));
+        }
+    }
+
+    void stampsAre(String when, WordMedium x, int area, int page, int first, int second) {
+        is("stamp(" + area + ", " + page + ", 0) " + when, first, x.stamp(area, page, 0));
+        is("stamp(" + area + ", " + page + ", 1) " + when, second, x.stamp(area, page, 1));
+    }
+
+    void countsAre(String when, WordMedium x, int area, int torn, int lost) {
+        is("count(" + area + ", 0) " + when, 256 - torn - lost, x.count(area, 0));
+        is("count(" + area + ", 1) " + when, torn, x.count(area, 1));
+        is("count(" + area + ", 2) " + when, lost, x.count(area, 2));
+    }
+
+    void logIs(String when, WordMedium x, int first, int forced, int end) {
+        is("log(0) " + when, first, x.log(0));
+        is("log(1) " + when, forced, x.log(1));
+        is("log(2) " + when, end, x.log(2));
+    }
+
     void end() {
         System.out.println(test + ": " + compared + " answers, " + wrong + " wrong");
         if (wrong != 0 || compared == 0) {

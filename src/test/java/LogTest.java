@@ -15,25 +15,22 @@ public final class LogTest {
         emptyLogsRefuse();
         whilePowerIsOff();
         theLongestLogOfOneRunHasRoom();
+        allForcedMayBeGivenBackAndNoMore();
+        oneTo64WordsAreReadAndAppended();
+        appendedWordsAreCopiesOfTheBuffer();
         due.end();
-    }
-
-    private static void logIs(String when, WordMedium x, int first, int forced, int end) {
-        due.is("log(0) " + when, first, x.log(0));
-        due.is("log(1) " + when, forced, x.log(1));
-        due.is("log(2) " + when, end, x.log(2));
     }
 
     private static void wordsAreAppendedAndRead() {
         WordMedium x = new WordMedium();
         x.fill(10, 1);
         due.is("append(3)", 0, x.append(3));
-        logIs("after append(3)", x, 0, 0, 3);
+        due.logIs("after append(3)", x, 0, 0, 3);
         due.is("get(2) after append", 12, x.get(2));
         x.fill(100, 100);
         due.is("append(64)", 3, x.append(64));
         due.is("append(1)", 67, x.append(1));
-        logIs("after appends", x, 0, 0, 68);
+        due.logIs("after appends", x, 0, 0, 68);
         due.is("writes() after appends", 0, x.writes());
         x.fill(0, 0);
         x.readLog(0, 64);
@@ -57,7 +54,7 @@ public final class LogTest {
         x.readLog(0, 1);
         due.is("get(0) after readLog(0, 1)", 10, x.get(0));
         due.is("get(1) after readLog(0, 1)", 13, x.get(1));
-        logIs("after reads", x, 0, 0, 5);
+        due.logIs("after reads", x, 0, 0, 5);
     }
 
     private static void wordsAreForced() {
@@ -66,18 +63,18 @@ public final class LogTest {
         x.append(10);
         due.is("force(0)", 0, x.force(0));
         due.is("force(4)", 4, x.force(4));
-        logIs("after force(4)", x, 0, 4, 10);
+        due.logIs("after force(4)", x, 0, 4, 10);
         due.is("writes() after force(4)", 4, x.writes());
         due.is("force(4) again", 0, x.force(4));
         due.is("force(2)", 0, x.force(2));
-        logIs("after force(2)", x, 0, 4, 10);
+        due.logIs("after force(2)", x, 0, 4, 10);
         due.is("force(10)", 6, x.force(10));
-        logIs("after force(10)", x, 0, 10, 10);
+        due.logIs("after force(10)", x, 0, 10, 10);
         due.is("writes() after force(10)", 10, x.writes());
         due.is("sum() after forces", 89440, x.sum());
         x.cut();
         x.start();
-        logIs("after a cut", x, 0, 10, 10);
+        due.logIs("after a cut", x, 0, 10, 10);
         x.readLog(0, 10);
         for (int i = 0; i < 10; i++) {
             due.is("get(" + i + ") of what was forced", i + 1, x.get(i));
@@ -95,7 +92,7 @@ public final class LogTest {
             due.is("isOn() cut after " + n, false, x.isOn());
             due.is("sum() cut after " + n, 0, x.sum());
             due.is("writes() cut after " + n, 1 + n, x.writes());
-            logIs("cut after " + n, x, 0, 1 + n, 1 + n);
+            due.logIs("cut after " + n, x, 0, 1 + n, 1 + n);
             x.start();
             x.readLog(0, 1 + n);
             due.is("get(" + n + ") of what was forced before the cut", n + 1, x.get(n));
@@ -113,7 +110,7 @@ public final class LogTest {
         x.readLog(5, 1);
         due.is("isOn() after calls without a least write", true, x.isOn());
         due.is("force(6) with one more to be made", WordMedium.NONE, x.force(6));
-        logIs("after that", x, 5, 5, 5);
+        due.logIs("after that", x, 5, 5, 5);
     }
 
     private static void placesNotForcedAreGivenAgain() {
@@ -122,11 +119,11 @@ public final class LogTest {
         x.append(20);
         x.force(7);
         x.cut();
-        logIs("while off", x, 0, 7, 7);
+        due.logIs("while off", x, 0, 7, 7);
         x.start();
         x.fill(500, 1);
         due.is("append(2) after a cut", 7, x.append(2));
-        logIs("after it", x, 0, 7, 9);
+        due.logIs("after it", x, 0, 7, 9);
         x.fill(0, 0);
         x.readLog(6, 3);
         due.is("get(0), forced", 7, x.get(0));
@@ -142,9 +139,9 @@ public final class LogTest {
         x.force(40);
         int writes = x.writes();
         x.giveBack(0);
-        logIs("after giveBack(0)", x, 0, 40, 64);
+        due.logIs("after giveBack(0)", x, 0, 40, 64);
         x.giveBack(30);
-        logIs("after giveBack(30)", x, 30, 40, 64);
+        due.logIs("after giveBack(30)", x, 30, 40, 64);
         due.is("writes() after giveBack", writes, x.writes());
         due.is("sum() after giveBack", 89440, x.sum());
         due.argumentIsThrown("giveBack(29)", () -> x.giveBack(29));
@@ -160,7 +157,7 @@ public final class LogTest {
         due.argumentIsThrown("readLog(30, 35)", () -> x.readLog(30, 35));
         x.cut();
         x.start();
-        logIs("after a cut", x, 30, 40, 40);
+        due.logIs("after a cut", x, 30, 40, 40);
         x.readLog(30, 10);
         due.is("get(9) after a cut", 40, x.get(9));
     }
@@ -171,14 +168,14 @@ public final class LogTest {
         x.append(12);
         x.force(12);
         x.giveBack(12);
-        logIs("when all is given back", x, 12, 12, 12);
+        due.logIs("when all is given back", x, 12, 12, 12);
         due.argumentIsThrown("readLog(11, 1)", () -> x.readLog(11, 1));
         due.argumentIsThrown("readLog(12, 1)", () -> x.readLog(12, 1));
         due.argumentIsThrown("giveBack(13)", () -> x.giveBack(13));
         due.argumentIsThrown("force(11)", () -> x.force(11));
         due.is("force(12)", 0, x.force(12));
         due.is("append(4)", 12, x.append(4));
-        logIs("with new words", x, 12, 12, 16);
+        due.logIs("with new words", x, 12, 12, 16);
     }
 
     private static void wrongArgumentsAreRefused() {
@@ -206,7 +203,7 @@ public final class LogTest {
         for (int which : new int[] {-1, 3, Integer.MIN_VALUE, Integer.MAX_VALUE}) {
             due.indexIsThrown("log(" + which + ")", () -> x.log(which));
         }
-        logIs("after refused calls", x, 0, 50, 100);
+        due.logIs("after refused calls", x, 0, 50, 100);
         due.is("sum() after refused calls", 89440, x.sum());
         due.is("writes() after refused calls", 50, x.writes());
         x.readLog(36, 64);
@@ -217,13 +214,13 @@ public final class LogTest {
 
     private static void emptyLogsRefuse() {
         WordMedium x = new WordMedium();
-        logIs("when new", x, 0, 0, 0);
+        due.logIs("when new", x, 0, 0, 0);
         due.is("force(0) when new", 0, x.force(0));
         x.giveBack(0);
         due.argumentIsThrown("force(1) when new", () -> x.force(1));
         due.argumentIsThrown("giveBack(1) when new", () -> x.giveBack(1));
         due.argumentIsThrown("readLog(0, 1) when new", () -> x.readLog(0, 1));
-        logIs("after that", x, 0, 0, 0);
+        due.logIs("after that", x, 0, 0, 0);
     }
 
     private static void whilePowerIsOff() {
@@ -243,18 +240,79 @@ public final class LogTest {
         due.offIsThrown("giveBack(7) while off", () -> x.giveBack(7));
         due.indexIsThrown("log(3) while off", () -> x.log(3));
         due.indexIsThrown("log(-1) while off", () -> x.log(-1));
-        logIs("while off", x, 2, 6, 6);
+        due.logIs("while off", x, 2, 6, 6);
         x.start();
-        logIs("when on again", x, 2, 6, 6);
+        due.logIs("when on again", x, 2, 6, 6);
     }
 
     private static void theLongestLogOfOneRunHasRoom() {
         WordMedium x = new WordMedium();
-        for (int k = 0; k < 500; k++) {
+        x.fill(1, 1);
+        for (int k = 0; k < 504; k++) {
             due.is("append(64), number " + k, k * 64L, x.append(64));
         }
-        due.is("force(32000)", 32000, x.force(32000));
-        logIs("of 500 appends", x, 0, 32000, 32000);
-        due.is("writes() of 500 appends", 32000, x.writes());
+        due.is("force(32256)", 32256, x.force(32256));
+        due.is("writes() of 504 appends", 32256, x.writes());
+        x.giveBack(32193);
+        due.is("append(1)", 32256, x.append(1));
+        x.readLog(32193, 64);
+        due.is("get(62), the last word forced", 64, x.get(62));
+        due.is("get(63), the word in memory", 1, x.get(63));
+    }
+
+    private static void allForcedMayBeGivenBackAndNoMore() {
+        WordMedium x = new WordMedium();
+        x.fill(1, 1);
+        x.append(20);
+        x.force(9);
+        due.argumentIsThrown("giveBack(10)", () -> x.giveBack(10));
+        x.giveBack(9);
+        due.logIs("when all that was forced is given back", x, 9, 9, 20);
+        due.argumentIsThrown("giveBack(8)", () -> x.giveBack(8));
+        due.argumentIsThrown("force(8)", () -> x.force(8));
+        due.argumentIsThrown("readLog(8, 1)", () -> x.readLog(8, 1));
+        x.readLog(9, 11);
+        due.is("get(0) of what is in memory", 10, x.get(0));
+        due.is("get(10) of what is in memory", 20, x.get(10));
+        due.is("force(9), nothing to do", 0, x.force(9));
+        due.is("force(10)", 1, x.force(10));
+        x.giveBack(10);
+        due.logIs("with one more given back", x, 10, 10, 20);
+    }
+
+    private static void oneTo64WordsAreReadAndAppended() {
+        WordMedium x = new WordMedium();
+        x.fill(1, 1);
+        due.is("append(64)", 0, x.append(64));
+        due.is("append(63)", 64, x.append(63));
+        due.is("append(2)", 127, x.append(2));
+        due.is("append(1)", 129, x.append(1));
+        for (int n : new int[] {0, 65}) {
+            due.argumentIsThrown("append(" + n + ")", () -> x.append(n));
+            due.argumentIsThrown("readLog(0, " + n + ")", () -> x.readLog(0, n));
+            due.argumentIsThrown("readLog(60, " + n + ")", () -> x.readLog(60, n));
+        }
+        due.logIs("of four appends", x, 0, 0, 130);
+        x.readLog(66, 64);
+        due.is("get(0) of 64 words", 3, x.get(0));
+        due.is("get(63) of 64 words", 1, x.get(63));
+        due.argumentIsThrown("readLog(67, 64)", () -> x.readLog(67, 64));
+        x.readLog(128, 1);
+        due.is("get(0) of one word", 2, x.get(0));
+        due.is("get(1) beside it", 4, x.get(1));
+        due.argumentIsThrown("readLog(130, 1)", () -> x.readLog(130, 1));
+    }
+
+    private static void appendedWordsAreCopiesOfTheBuffer() {
+        WordMedium x = new WordMedium();
+        x.fill(1, 1);
+        x.append(64);
+        x.fill(-1, -1);
+        x.readLog(0, 1);
+        due.is("get(0) of the log, the buffer filled since", 1, x.get(0));
+        x.force(64);
+        x.set(5, 77);
+        x.readLog(5, 1);
+        due.is("get(0) of the log, forced since", 6, x.get(0));
     }
 }

@@ -16,8 +16,11 @@ public final class PagesTest {
         lostPagesStayLostUntilBothHalvesAreWritten();
         pagesAreLostWhilePowerIsOff();
         copiesGoToTheOtherArea();
+        copiesGoFromTheFirstAndTheLastPage();
         copiesFail();
+        copiesEndWithTheLastPower();
         tornAndLostPagesAreNotCopied();
+        pagesWrittenAgainAreCopied();
         copiesMendTheOtherPage();
         statesAreCounted();
         wrongPagesAreRefused();
@@ -25,46 +28,29 @@ public final class PagesTest {
         due.end();
     }
 
-    private static void isFilled(String when, WordMedium x, int a, int b) {
-        for (int i = 0; i < 64; i++) {
-            due.is("get(" + i + ") " + when, a + i * b, x.get(i));
-        }
-    }
-
-    private static void stampsAre(String when, WordMedium x, int area, int page, int first, int second) {
-        due.is("stamp(" + area + ", " + page + ", 0) " + when, first, x.stamp(area, page, 0));
-        due.is("stamp(" + area + ", " + page + ", 1) " + when, second, x.stamp(area, page, 1));
-    }
-
-    private static void countsAre(String when, WordMedium x, int area, int torn, int lost) {
-        due.is("count(" + area + ", 0) " + when, 256 - torn - lost, x.count(area, 0));
-        due.is("count(" + area + ", 1) " + when, torn, x.count(area, 1));
-        due.is("count(" + area + ", 2) " + when, lost, x.count(area, 2));
-    }
-
     private static void pagesAreWrittenAndRead() {
         WordMedium x = new WordMedium();
         x.fill(5, 7);
         due.is("write(0, 3)", 1, x.write(0, 3));
-        isFilled("after write", x, 5, 7);
+        due.isFilled("after write", x, 5, 7);
         due.is("writes() after a page", 2, x.writes());
-        stampsAre("after write", x, 0, 3, 1, 1);
+        due.stampsAre("after write", x, 0, 3, 1, 1);
         x.fill(-1, -1);
         due.is("write(0, 3) again", 2, x.write(0, 3));
         x.fill(0, 0);
         due.is("read(0, 3)", 0, x.read(0, 3));
-        isFilled("after read", x, -1, -1);
+        due.isFilled("after read", x, -1, -1);
         due.is("writes() after two pages and a read", 4, x.writes());
-        stampsAre("after two writes", x, 0, 3, 2, 2);
+        due.stampsAre("after two writes", x, 0, 3, 2, 2);
         x.fill(9, 9);
         due.is("read(0, 4), never written", 0, x.read(0, 4));
-        isFilled("after read of a page never written", x, 0, 0);
+        due.isFilled("after read of a page never written", x, 0, 0);
         x.fill(8, 8);
         x.read(0, 3);
         x.set(0, 77);
         x.read(0, 4);
         x.read(0, 3);
-        isFilled("after another read: the buffer is not the page", x, -1, -1);
+        due.isFilled("after another read: the buffer is not the page", x, -1, -1);
     }
 
     private static void areasAndPagesStandApart() {
@@ -81,11 +67,11 @@ public final class PagesTest {
             due.is("sum() of page " + pages[k], k * 2080 + 87360, x.sum());
             x.read(1, pages[k]);
             due.is("sum() of copy " + pages[k], k * 2080 + 87360 * 1000, x.sum());
-            stampsAre("of many", x, 0, pages[k], 2 * k + 1, 2 * k + 1);
-            stampsAre("of many", x, 1, pages[k], 2 * k + 2, 2 * k + 2);
+            due.stampsAre("of many", x, 0, pages[k], 2 * k + 1, 2 * k + 1);
+            due.stampsAre("of many", x, 1, pages[k], 2 * k + 2, 2 * k + 2);
         }
-        countsAre("of many", x, 0, 0, 0);
-        countsAre("of many", x, 1, 0, 0);
+        due.countsAre("of many", x, 0, 0, 0);
+        due.countsAre("of many", x, 1, 0, 0);
     }
 
     private static void everyPageIsAnother() {
@@ -113,10 +99,10 @@ public final class PagesTest {
         due.is("isOn() after it", false, x.isOn());
         due.is("sum() after it", 0, x.sum());
         due.is("writes() after it", 2, x.writes());
-        stampsAre("after it", x, 1, 7, 1, 1);
+        due.stampsAre("after it", x, 1, 7, 1, 1);
         x.start();
         due.is("read(1, 7) after it", 0, x.read(1, 7));
-        isFilled("after a write that never began", x, 1, 1);
+        due.isFilled("after a write that never began", x, 1, 1);
         due.is("write(1, 7): the number in between was given", 3, x.write(1, 7));
     }
 
@@ -130,9 +116,9 @@ public final class PagesTest {
         due.is("isOn() after it", false, x.isOn());
         due.is("sum() after it", 0, x.sum());
         due.is("writes() after it", 3, x.writes());
-        stampsAre("of a torn page", x, 0, 255, 2, 1);
-        countsAre("with a torn page", x, 0, 1, 0);
-        countsAre("beside a torn page", x, 1, 0, 0);
+        due.stampsAre("of a torn page", x, 0, 255, 2, 1);
+        due.countsAre("with a torn page", x, 0, 1, 0);
+        due.countsAre("beside a torn page", x, 1, 0, 0);
         x.start();
         due.is("read(0, 255), torn", 1, x.read(0, 255));
         for (int i = 0; i < 64; i++) {
@@ -150,15 +136,15 @@ public final class PagesTest {
             x.cutAfter(1);
             due.is("write(1, 0) cut", WordMedium.NONE, x.write(1, 0));
             x.start();
-            stampsAre("cut " + k + " times", x, 1, 0, k, 0);
-            countsAre("cut " + k + " times", x, 1, 1, 0);
+            due.stampsAre("cut " + k + " times", x, 1, 0, k, 0);
+            due.countsAre("cut " + k + " times", x, 1, 1, 0);
         }
         x.fill(6, 0);
         due.is("write(1, 0)", 4, x.write(1, 0));
-        stampsAre("whole again", x, 1, 0, 4, 4);
-        countsAre("whole again", x, 1, 0, 0);
+        due.stampsAre("whole again", x, 1, 0, 4, 4);
+        due.countsAre("whole again", x, 1, 0, 0);
         due.is("read(1, 0) whole again", 0, x.read(1, 0));
-        isFilled("whole again", x, 6, 0);
+        due.isFilled("whole again", x, 6, 0);
     }
 
     private static void lostPagesAreReadAsZeros() {
@@ -167,19 +153,19 @@ public final class PagesTest {
         x.write(0, 9);
         x.lose(0, 9);
         due.is("writes() after lose", 2, x.writes());
-        isFilled("after lose", x, 1, 1);
-        stampsAre("of a lost page", x, 0, 9, 1, 1);
-        countsAre("with a lost page", x, 0, 0, 1);
-        countsAre("beside a lost page", x, 1, 0, 0);
+        due.isFilled("after lose", x, 1, 1);
+        due.stampsAre("of a lost page", x, 0, 9, 1, 1);
+        due.countsAre("with a lost page", x, 0, 0, 1);
+        due.countsAre("beside a lost page", x, 1, 0, 0);
         due.is("read(0, 9), lost", 2, x.read(0, 9));
-        isFilled("of a lost page", x, 0, 0);
+        due.isFilled("of a lost page", x, 0, 0);
         x.lose(0, 9);
-        countsAre("lost twice", x, 0, 0, 1);
+        due.countsAre("lost twice", x, 0, 0, 1);
         x.fill(4, 4);
         due.is("read(1, 9), not lost", 0, x.read(1, 9));
         due.is("read(0, 8), not lost", 0, x.read(0, 8));
         x.lose(1, 255);
-        countsAre("with the last page lost", x, 1, 0, 1);
+        due.countsAre("with the last page lost", x, 1, 0, 1);
     }
 
     private static void lostPagesStayLostUntilBothHalvesAreWritten() {
@@ -191,12 +177,12 @@ public final class PagesTest {
             x.fill(50, 0);
             x.cutAfter(1);
             due.is("write(0, 9) cut, lost", WordMedium.NONE, x.write(0, 9));
-            stampsAre("torn and lost", x, 0, 9, 2 + k, 1);
-            countsAre("torn and lost", x, 0, 0, 1);
+            due.stampsAre("torn and lost", x, 0, 9, 2 + k, 1);
+            due.countsAre("torn and lost", x, 0, 0, 1);
             x.start();
             x.fill(3, 3);
             due.is("read(0, 9), torn and lost", 2, x.read(0, 9));
-            isFilled("torn and lost", x, 0, 0);
+            due.isFilled("torn and lost", x, 0, 0);
         }
         x.cutAfter(0);
         x.write(0, 9);
@@ -205,8 +191,8 @@ public final class PagesTest {
         x.fill(2, 5);
         due.is("write(0, 9), both halves", 6, x.write(0, 9));
         due.is("read(0, 9), found again", 0, x.read(0, 9));
-        isFilled("found again", x, 2, 5);
-        countsAre("found again", x, 0, 0, 0);
+        due.isFilled("found again", x, 2, 5);
+        due.countsAre("found again", x, 0, 0, 0);
     }
 
     private static void pagesAreLostWhilePowerIsOff() {
@@ -215,7 +201,7 @@ public final class PagesTest {
         x.write(1, 30);
         x.cut();
         x.lose(1, 30);
-        countsAre("lost while off", x, 1, 0, 1);
+        due.countsAre("lost while off", x, 1, 0, 1);
         x.start();
         due.is("read(1, 30), lost while off", 2, x.read(1, 30));
     }
@@ -229,22 +215,40 @@ public final class PagesTest {
         x.fill(3, 3);
         due.is("copy(0, 200)", 3, x.copy(0, 200));
         due.is("copy(1, 201)", 4, x.copy(1, 201));
-        isFilled("after copies: not by way of the buffer", x, 3, 3);
+        due.isFilled("after copies: not by way of the buffer", x, 3, 3);
         due.is("writes() after two pages and two copies", 8, x.writes());
-        stampsAre("where it came from", x, 0, 200, 1, 1);
-        stampsAre("where it went", x, 1, 200, 3, 3);
-        stampsAre("where it went", x, 0, 201, 4, 4);
+        due.stampsAre("where it came from", x, 0, 200, 1, 1);
+        due.stampsAre("where it went", x, 1, 200, 3, 3);
+        due.stampsAre("where it went", x, 0, 201, 4, 4);
         due.is("read(1, 200)", 0, x.read(1, 200));
-        isFilled("of a copy", x, 1, 1);
+        due.isFilled("of a copy", x, 1, 1);
         due.is("read(0, 201)", 0, x.read(0, 201));
-        isFilled("of a copy back", x, 2, 2);
+        due.isFilled("of a copy back", x, 2, 2);
         due.is("read(0, 200)", 0, x.read(0, 200));
-        isFilled("of what was copied", x, 1, 1);
+        due.isFilled("of what was copied", x, 1, 1);
         due.is("copy(0, 0), never written", 5, x.copy(0, 0));
         x.fill(8, 8);
         x.write(0, 200);
         x.read(1, 200);
-        isFilled("of a copy whose page was written since", x, 1, 1);
+        due.isFilled("of a copy whose page was written since", x, 1, 1);
+    }
+
+    private static void copiesGoFromTheFirstAndTheLastPage() {
+        for (int area = 0; area < 2; area++) {
+            for (int page = 0; page < 256; page += 255) {
+                WordMedium x = new WordMedium();
+                x.fill(page + 1, area + 1);
+                x.write(area, page);
+                x.fill(9, 9);
+                due.is("copy(" + area + ", " + page + ")", 2, x.copy(area, page));
+                due.is("read(" + (1 - area) + ", " + page + ")", 0, x.read(1 - area, page));
+                due.isFilled("of a copy", x, page + 1, area + 1);
+                due.is("read(" + area + ", " + page + ")", 0, x.read(area, page));
+                due.isFilled("of what was copied", x, page + 1, area + 1);
+                due.is("read(" + area + ", " + (255 - page) + "), another", 0, x.read(area, 255 - page));
+                due.isFilled("of another page", x, 0, 0);
+            }
+        }
     }
 
     private static void copiesFail() {
@@ -258,14 +262,14 @@ public final class PagesTest {
         due.is("copy(0, 5) without power", WordMedium.NONE, x.copy(0, 5));
         due.is("isOn() after it", false, x.isOn());
         due.is("sum() after it", 0, x.sum());
-        stampsAre("after it", x, 1, 5, 2, 2);
+        due.stampsAre("after it", x, 1, 5, 2, 2);
         x.start();
         x.cutAfter(1);
         due.is("copy(0, 5) cut in the middle", WordMedium.NONE, x.copy(0, 5));
         due.is("writes() after it", 5, x.writes());
-        stampsAre("of a torn copy", x, 1, 5, 4, 2);
-        stampsAre("beside a torn copy", x, 0, 5, 1, 1);
-        countsAre("with a torn copy", x, 1, 1, 0);
+        due.stampsAre("of a torn copy", x, 1, 5, 4, 2);
+        due.stampsAre("beside a torn copy", x, 0, 5, 1, 1);
+        due.countsAre("with a torn copy", x, 1, 1, 0);
         x.start();
         due.is("read(1, 5), torn", 1, x.read(1, 5));
         for (int i = 0; i < 64; i++) {
@@ -273,6 +277,36 @@ public final class PagesTest {
         }
         due.is("copy(0, 5)", 5, x.copy(0, 5));
         due.is("read(1, 5)", 0, x.read(1, 5));
+    }
+
+    private static void copiesEndWithTheLastPower() {
+        WordMedium x = new WordMedium();
+        x.fill(1, 1);
+        x.write(0, 5);
+        x.cutAfter(2);
+        due.is("copy(0, 5) with power for it", 2, x.copy(0, 5));
+        due.is("isOn() after it", true, x.isOn());
+        due.is("copy(1, 5) without power", WordMedium.NONE, x.copy(1, 5));
+        due.is("isOn() after that", false, x.isOn());
+        due.stampsAre("of what was copied", x, 0, 5, 1, 1);
+        due.stampsAre("of the copy", x, 1, 5, 2, 2);
+    }
+
+    private static void pagesWrittenAgainAreCopied() {
+        WordMedium x = new WordMedium();
+        x.cutAfter(1);
+        x.write(0, 6);
+        x.start();
+        x.lose(0, 7);
+        for (int page = 6; page <= 7; page++) {
+            int of = page;
+            due.offIsThrown("copy(0, " + of + ")", () -> x.copy(0, of));
+            x.fill(of, 1);
+            x.write(0, of);
+            due.is("copy(0, " + of + ") written again", 2 * of - 9, x.copy(0, of));
+            due.is("read(1, " + of + ")", 0, x.read(1, of));
+            due.isFilled("of the copy", x, of, 1);
+        }
     }
 
     private static void tornAndLostPagesAreNotCopied() {
@@ -289,8 +323,8 @@ public final class PagesTest {
         due.offIsThrown("copy(0, 6), torn and lost", () -> x.copy(0, 6));
         due.is("isOn() after refused copies", true, x.isOn());
         due.is("writes() after refused copies", 1, x.writes());
-        isFilled("after refused copies", x, 1, 1);
-        stampsAre("of a refused copy", x, 1, 6, 0, 0);
+        due.isFilled("after refused copies", x, 1, 1);
+        due.stampsAre("of a refused copy", x, 1, 6, 0, 0);
         due.is("write(0, 0): refused copies took no number", 2, x.write(0, 0));
         due.is("writes() after it", 3, x.writes());
     }
@@ -306,8 +340,8 @@ public final class PagesTest {
         due.is("read(1, 6), still lost", 2, x.read(1, 6));
         due.is("copy(0, 6) onto a torn and lost page", 3, x.copy(0, 6));
         due.is("read(1, 6), found again", 0, x.read(1, 6));
-        isFilled("found again", x, 1, 1);
-        countsAre("found again", x, 1, 0, 0);
+        due.isFilled("found again", x, 1, 1);
+        due.countsAre("found again", x, 1, 0, 0);
     }
 
     private static void statesAreCounted() {
@@ -320,11 +354,11 @@ public final class PagesTest {
         x.lose(0, 60);
         x.lose(0, 61);
         x.lose(1, 255);
-        countsAre("of both areas", x, 0, 4, 2);
-        countsAre("of both areas", x, 1, 0, 1);
+        due.countsAre("of both areas", x, 0, 4, 2);
+        due.countsAre("of both areas", x, 1, 0, 1);
         x.write(0, 0);
         x.write(0, 60);
-        countsAre("after writes", x, 0, 3, 1);
+        due.countsAre("after writes", x, 0, 3, 1);
     }
 
     private static void wrongPagesAreRefused() {
@@ -348,10 +382,10 @@ public final class PagesTest {
             due.indexIsThrown("count(" + no + ", 0)", () -> x.count(no, 0));
         }
         due.indexIsThrown("count(2, 0)", () -> x.count(2, 0));
-        isFilled("after refused calls", x, 1, 1);
+        due.isFilled("after refused calls", x, 1, 1);
         due.is("writes() after refused calls", 0, x.writes());
-        countsAre("after refused calls", x, 0, 0, 0);
-        countsAre("after refused calls", x, 1, 0, 0);
+        due.countsAre("after refused calls", x, 0, 0, 0);
+        due.countsAre("after refused calls", x, 1, 0, 0);
         due.is("write(0, 0): refused writes took no number", 1, x.write(0, 0));
     }
 
@@ -371,8 +405,8 @@ public final class PagesTest {
             due.indexIsThrown("stamp" + page, () -> x.stamp(no[0], no[1], 1));
         }
         due.indexIsThrown("count(0, 3) while off", () -> x.count(0, 3));
-        stampsAre("while off", x, 0, 1, 1, 1);
-        countsAre("while off", x, 0, 0, 0);
+        due.stampsAre("while off", x, 0, 1, 1, 1);
+        due.countsAre("while off", x, 0, 0, 0);
         x.start();
         due.is("write(0, 0): writes while off took no number", 2, x.write(0, 0));
     }

@@ -15,6 +15,8 @@ public final class PowerTest {
         memoryGoesAndTheMediumStays();
         wrongNumbersAreRefused();
         theLargestNumberIsNeverReached();
+        whatIsSaidCountsFromNowOn();
+        startLeavesMemoryEmpty();
         due.end();
     }
 
@@ -228,8 +230,40 @@ public final class PowerTest {
 
     private static void theLargestNumberIsNeverReached() {
         WordMedium x = new WordMedium();
-        x.cutAfter(Integer.MAX_VALUE);
-        due.is("write(0, 0)", 1, x.write(0, 0));
+        for (int k = 1; k <= 3; k++) {
+            x.cutAfter(Integer.MAX_VALUE);
+            due.is("write(0, 0) number " + k, k, x.write(0, 0));
+            x.cutAfter(Integer.MAX_VALUE - 1);
+            due.is("setRoot(0, " + k + ")", true, x.setRoot(0, k));
+            due.is("isOn()", true, x.isOn());
+        }
+        due.is("writes()", 9, x.writes());
+        x.cutAfter(0);
+        due.is("setRoot(0, 4), in place of what was said", false, x.setRoot(0, 4));
+    }
+
+    private static void whatIsSaidCountsFromNowOn() {
+        WordMedium x = new WordMedium();
+        x.cutAfter(5);
+        x.write(0, 0);
+        x.setRoot(0, 1);
+        x.cutAfter(3);
+        due.is("write(0, 0)", 2, x.write(0, 0));
+        due.is("setRoot(0, 2), the third", true, x.setRoot(0, 2));
+        due.is("setRoot(0, 3), the fourth", false, x.setRoot(0, 3));
+        due.is("writes()", 6, x.writes());
+    }
+
+    private static void startLeavesMemoryEmpty() {
+        WordMedium x = new WordMedium();
+        x.fill(1, 1);
+        x.append(3);
+        x.force(1);
+        x.cut();
+        due.is("start()", true, x.start());
+        due.isFilled("after start", x, 0, 0);
+        due.logIs("after start", x, 0, 1, 1);
         due.is("isOn()", true, x.isOn());
+        due.is("start() again", false, x.start());
     }
 }
